@@ -934,6 +934,10 @@ public final class HueLease {
             if (sort != NUMBER) {
                 return refuse(NOT_HERE, start);
             }
+            value = 0;
+            for (int i = start; i < at; i++) {
+                value = 10 * value + bytes[i] - '0';
+            }
             return value <= most || refuse(OUT_OF_BOUNDS, start);
         }
 
@@ -972,26 +976,15 @@ public final class HueLease {
                 at = behind('a', 'z');
                 return true;
             }
-            return within(bytes[at], '0', '9') ? readFigures() : refuse(NO_TOKEN, start);
-        }
-
-        private boolean readFigures() {
             sort = NUMBER;
             at = behind('0', '9');
-            if (at - start > 2) {
-                return refuse(NO_TOKEN, start);
-            }
-            value = 0;
-            for (int i = start; i < at; i++) {
-                value = 10 * value + bytes[i] - '0';
-            }
-            return true;
+            return within(at - start, 1, 2) || refuse(NO_TOKEN, start);
         }
 
         /** The first place from the start on whose byte is none of these, or the length. */
         private int behind(int least, int most) {
             int i = start;
-            while (i < length && within(bytes[i], least, most)) {
+            while (i < length && bytes[i] >= least && bytes[i] <= most) {
                 i++;
             }
             return i;

@@ -175,6 +175,9 @@ public final class PromiseTest {
         textIs("one 1 1; 999", -19, 1);
         textIs("plains 1 1 1 1;", -10, 2);
         textIs("plai 1 1 1 1;", -10, 2);
+        textIs("slain 1 1 1 1;", -10, 2);
+        textIs("plaiz 1 1 1 1;", -10, 2);
+        textIs("lost 1 1 1;", -10, 2);
         textIs("oneone 1 1;", -10, 2);
         textIs(" ;", -11, 2);
         textIs("one 1 1;;", -18, 2);
@@ -342,6 +345,9 @@ public final class PromiseTest {
         due(BAD, x.off(-1, 0));
         due(BAD, x.off(2, 0));
         due(27, of("one 1 1;").off(0, 999));
+        due(27, of("plain 9 9 9 9;one 1 1;lent 0 0 1;").off(0, 0));
+        due(1, of("plain 0 9 9 9;one 1 1;lent 0 0 1;").off(0, 199));
+        due(19, of("plain 0 9 9 9;one 1 1;lent 0 0 1;").off(0, 100));
     }
 
     static void alter() {
@@ -362,6 +368,9 @@ public final class PromiseTest {
         due(BAD, x.alter(-1, 0, 0));
         due(BAD, x.alter(4, 0, 0));
         due(BAD, x.alter(HIGH, 0, 0));
+        due(8, x.alter(1, 3, 2));
+        due(2, x.colour(1, 3));
+        due(6, x.colour(2, 1));
         x.alter(2, 0, 3);
         due(1, x.colour(2, 5));
         due(18, x.one(0, 4));
@@ -583,6 +592,8 @@ public final class PromiseTest {
         due(NONE, y.mix(555, 4, 0));
         due(NONE, y.mix(555, 4, 1));
         due(BAD, y.mix(555, 4, 4));
+        due(27, of("plain 0 0 0 1;").mix(999, 1, 0));
+        due(1, of("plain 0 0 0 1;").mix(999, 1, 1));
         due(NONE, new HueLease().mix(0, 1, 0));
         due(BAD, new HueLease().mix(0, 1, 1));
     }
@@ -646,6 +657,13 @@ public final class PromiseTest {
         due(1, of("lasting 1 1 1 9;one 0 0;one 60 0;lent 0 0 1;").swap(0));
         due(NONE, of("lasting 1 1 1 9;one 0 0;one 59 0;lent 0 0 1;").swap(0));
         due(NONE, of("lasting 1 1 1 9;one 0 0;one 59 0;lent 0 0 1;").swap(1));
+        // What was seized before does not count.
+        HueLease z = of("lasting 1 1 1 9;one 0 0;one 99 99;lent 0 0 5;");
+        z.days(1);
+        z.lend(0, 0, 5);
+        due(1, z.rule(3));
+        due(1, z.swap(0));
+        due(0, z.swap(1));
         due(NONE, of(RICH).swap(0));
         due(BAD, y.swap(-1));
         due(BAD, y.swap(2));
@@ -687,6 +705,12 @@ public final class PromiseTest {
         due(BAD, x.need(0, -1));
         due(BAD, x.need(0, 61));
         due(99, of("lasting 1 1 1 9;one 0 0;lent 0 0 33;").need(0, 60));
+        // Six, four and two are due, on the first day and on the next ones.
+        due(6, of("plain 1 1 1 9;one 0 0;lent 0 0 3;").need(0, 60));
+        due(3, of("plain 1 1 1 9;one 4 0;lent 0 0 3;").need(0, 60));
+        HueLease y = of("lasting 1 1 1 9;one 0 0;lent 0 0 5;");
+        y.days(1);
+        due(0, y.need(0, 60));
     }
 
     static void kind() {
@@ -735,6 +759,12 @@ public final class PromiseTest {
         // Only eight sunny days take sixteen drops.
         luckIs(z, 1, 8, 90, 1, 100000000);
         luckIs(z, 9, 8, 90, 43046721, 100000000);
+        HueLease w = of("plain 9 0 0 9;lasting 0 9 0 9;one 0 0;one 99 99;lent 1 0 2;lent 1 1 2;");
+        due(9, w.luck(9, 1, 1, 90, 0));
+        due(1, w.luck(9, 1, 1, 360, 0));
+        due(10, w.luck(9, 1, 1, 360, 1));
+        due(1, w.luck(9, 0, 1, 0, 0));
+        due(0, w.luck(9, 0, 1, 90, 0));
         due(BAD, x.luck(-1, 0, 0, 0, 0));
         due(BAD, x.luck(11, 0, 0, 0, 0));
         due(BAD, x.luck(0, -1, 0, 0, 0));
@@ -859,10 +889,15 @@ public final class PromiseTest {
         due(BAD, x.drops(1, 0));
         due(BAD, x.drops(0, -1));
         due(BAD, x.drops(0, 2));
-        HueLease y = of("plain 9 0 0 9;one 99 99;one 0 0;lent 0 0 3;");
+        HueLease y = of("plain 9 0 0 9;lasting 0 9 0 9;one 99 99;one 0 0;lent 0 0 3;");
         y.see(0, 1, 0);
         due(HIGH, y.drops(0, 0));
         due(1, y.drops(1, 0));
+        due(1, y.drops(1, 1));
+        y.forget(0);
+        // With three of the first, one of the second: 27 and 9 by four.
+        y.see(0, 0, 620);
+        due(2, y.drops(0, 1));
     }
 
     static void ask() {
@@ -888,6 +923,20 @@ public final class PromiseTest {
         due(1, z.ask(0, 1));
         z.pay(0, 0, 9 * 20);
         due(NONE, z.ask(0, 0));
+        // Once a look has left plain alone, or plain and fugitive where one drop fades by both, there is nothing to ask.
+        HueLease w = of("plain 9 0 0 9;lasting 0 9 0 9;one 99 0;lent 0 0 2;lent 0 1 1;");
+        w.see(0, 0, 630);
+        due(10, w.ask(0, 0));
+        w.see(1, 0, 440);
+        due(1, w.kinds(0));
+        due(NONE, w.ask(0, 0));
+        HueLease v = of("plain 9 0 0 9;one 99 99;lent 0 0 1;");
+        v.see(1, 0, 0);
+        due(9, v.kinds(0));
+        due(NONE, v.ask(0, 0));
+        v.forget(0);
+        due(10, v.ask(0, 0));
+        due(2, v.ask(0, 1));
         due(BAD, x.ask(-1, 0));
         due(BAD, x.ask(2, 0));
         due(BAD, x.ask(0, -1));
@@ -911,6 +960,10 @@ public final class PromiseTest {
         due(0, x.rule(2));
         due(0, x.rule(5));
         due(14, x.rule(4));
+        x.lend(1, 0, 1);
+        due(1, x.days(1));
+        due(0, x.drift(0, 1, 1));
+        due(2, x.drift(-1, 2, 1));
         due(BAD, x.drift(0, 0, 0));
         due(BAD, x.drift(0, 61, 0));
         due(BAD, x.drift(0, 1, -1));
@@ -995,6 +1048,10 @@ public final class PromiseTest {
         due(1, x.read(3, 1, 0, 1));
         due(1, x.sheet(3, 1, 3));
         due(-20, x.read(3, 1, 0, 1));
+        x.lay(3, 0, 1);
+        due(1, x.sheet(3, 1, 3));
+        x.lay(3, 2, 1);
+        due(1, x.read(3, 1, 0, 1));
     }
 
     static void lay() {
@@ -1073,6 +1130,11 @@ public final class PromiseTest {
         due(BAD, y.read(2, 1, 0, 14));
         due(0, y.read(2, 1, -9, 0));
         due(0, y.torn());
+        y.sheet(2, 1, 0);
+        due(0, y.read(2, 1, 0, 1));
+        due(2, y.torn());
+        due(0, y.read(2, 2, 0, 1));
+        due(3, y.torn());
         // One behind another: nine are in the vat, three times three come, and not one more.
         HueLease z = withLoans(0, 0, 3, 0, 0, 3, 1, 0, 3, 1, 0, 1);
         due(-23, z.read(1, 1, 0, 4));
