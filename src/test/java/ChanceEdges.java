@@ -3,7 +3,9 @@ final class ChanceEdges {
     static final int BAD = -1, STATE = -2, FULL = -3, NONE = -4;
     static final String TWO = "plain 9 0 0 9;lasting 0 9 0 9;one 99 99;lent 0 0 2;lent 0 1 2;";
     static final String RICH = "plain 9 0 0 9;lasting 0 9 0 9;one 99 99;lent 0 0 4;lent 0 1 1;";
-    static final int[] SEEDS = {0, 1, 2, -1, -2, 7, 12345, 99999, 1 << 15, 1 << 16, 1 << 30, -(1 << 30), Edges.HIGH, Edges.LOW};
+    /** Seeds whose next ones have no bit, and all bits, below 16: one less, or one more, is told from 12345 by them. */
+    static final int LEAST_CARRY = 42627, MOST_CARRY = 47902;
+    static final int[] SEEDS = {0, 1, 2, LEAST_CARRY, MOST_CARRY, -1, -2, 7, 12345, 99999, 1 << 15, 1 << 16, 1 << 30, -(1 << 30), Edges.HIGH, Edges.LOW};
 
     private ChanceEdges() {
     }
@@ -159,6 +161,16 @@ final class ChanceEdges {
             Edges.due(15, x.kinds(0));
             x.pay(0, 0, 60);
             Edges.due(13, x.kinds(0));
+        });
+        Edges.edge(28, "HUE of a ONE is h: how many are.", () -> {
+            // The last one of four holds what is looked at, the first one does not.
+            HueLease x = Edges.of("plain 9 0 0 9;lasting 0 9 0 9;one 1 1;one 1 1;one 1 1;one 99 99;lent 3 0 4;lent 3 1 1;");
+            Edges.due(1, x.see(1, 3, 620));
+            Edges.due(1, x.kinds(0));
+            Edges.due(2, x.see(1, 0, 0));
+            Edges.due(1, x.kinds(0));
+            Edges.due(3, x.see(1, 0, 620));
+            Edges.due(0, x.kinds(0));
         });
         Edges.edge(28, "how many are. BAD; FULL.", () -> {
             Edges.bounds(0, 1, Edges::busy, (x, v) -> x.see(0, v, 0));
@@ -321,6 +333,10 @@ final class ChanceEdges {
             Edges.due(2, last.ask(0, 1));
             HueLease two = Edges.of(drops + "one 0 0;one 99 99;one 99 99;lent 1 0 4;lent 1 1 1;lent 2 0 4;lent 2 1 1;");
             Edges.due(11, two.ask(0, 0));
+            // Royal ones are taken on the second day, fugitive ones are gone behind the tenth, plain and lasting ones stay alike.
+            HueLease same = Edges.of("plain 9 0 0 9;one 99 99;lent 0 0 30;");
+            Edges.due(100, same.ask(0, 0));
+            Edges.due(2, same.ask(0, 1));
             // A later look that leaves fewer goes ahead of an earlier one.
             HueLease later = Edges.of(drops + "one 60 0;lent 0 0 8;lent 0 1 1;");
             Edges.due(20, later.ask(0, 0));

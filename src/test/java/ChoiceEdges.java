@@ -192,6 +192,13 @@ final class ChoiceEdges {
             HueLease x = Edges.of("lasting1 1 1 9;royal1 1 1 9;one 0 0;one 0 0;one 99 99;lent 0 0 1;lent 1 0 1;lent 1 1 1;");
             Edges.due(12, x.swap(0));
             Edges.due(1, x.swap(1));
+            // Seizures that have been do not count.
+            HueLease y = Edges.of(drop + "one 0 0;one 99 99;lent 0 0 5;");
+            y.days(1);
+            y.lend(0, 0, 5);
+            Edges.due(1, y.rule(3));
+            Edges.due(1, y.swap(0));
+            Edges.due(0, y.swap(1));
         });
         Edges.edge(22, "BAD; NONE: by none.", () -> {
             Edges.bounds(0, 1, Edges::busy, HueLease::swap);
@@ -268,6 +275,13 @@ final class ChoiceEdges {
             Edges.due(3, lasting(9, 59, 1).need(0, 60));
             Edges.due(2, lasting(9, 59, 1).need(0, 59));
             Edges.due(2, lasting(9, 60, 1).need(0, 60));
+            // Of three plain drops one fades a day: six, four and two are due.
+            HueLease plain = Edges.of("plain 1 1 1 9;one 0 0;lent 0 0 3;");
+            Edges.due(6, plain.need(0, 60));
+            plain.pay(0, 0, 4);
+            Edges.due(2, plain.need(0, 1));
+            Edges.due(3, plain.need(0, 2));
+            Edges.due(3, plain.need(0, 60));
             // Another's seizures are not his.
             Edges.due(0, Edges.of("lasting 1 1 1 9;one 0 0;one 0 0;lent 0 0 9;").need(1, 60));
             HueLease x = lasting(9, 0, 5);

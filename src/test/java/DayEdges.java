@@ -237,6 +237,13 @@ final class DayEdges {
             Edges.due(0, x.runs(60, 1));
             Edges.due(NONE, x.runs(60, 3));
             Edges.due(5, late(999).runs(60, 0));
+            // Each is asked anew.
+            HueLease y = lastingDrop(9);
+            Edges.due(9, y.runs(60, 2));
+            Edges.due(9, y.runs(60, 2));
+            y.days(1);
+            Edges.due(6, y.runs(60, 2));
+            Edges.due(3, y.runs(1, 2));
         });
     }
 
@@ -251,6 +258,15 @@ final class DayEdges {
             Edges.due(123, lastingDrop(3 * 60).ahead(0, 60, 0));
             Edges.due(0, lastingDrop(3 * 60).ahead(0, 60, 1));
             Edges.due(2, lastingDrop(3 * 59 + 2).ahead(0, 60, 1));
+        });
+        Edges.edge(17, "DROPS that he HOLDS (2).", () -> {
+            HueLease x = Edges.of("plain 1 1 1 9;fugitive 2 2 2 9;one 99 99;lent 0 0 3;lent 0 1 4;");
+            int[] left = {7, 3, 1, 0, 0};
+            for (int n = 0; n < left.length; n++) {
+                Edges.due(left[n], x.ahead(0, n, 2));
+            }
+            Edges.due(111, x.ahead(0, 2, 0));
+            Edges.due(0, x.ahead(0, 3, 0));
         });
         Edges.edge(17, "DROPS that he HOLDS (2). BAD.", () -> {
             Edges.bounds(0, 2, Edges::busy, (x, v) -> x.ahead(1, 1, v));

@@ -69,6 +69,11 @@ final class StateEdges {
                 Edges.due(4 * 99, x.colour(c, 6));
             }
             Edges.due(0, Edges.of("plain 1 1 1 1;one 1 1;").colour(0, 6));
+            HueLease two = Edges.of("plain1 1 1 1;".repeat(5) + "one 1 1;".repeat(4) + "lent 0 0 99;lent 3 4 1;lent 3 0 2;");
+            int[] held = {101, 0, 0, 0, 1};
+            for (int c = 0; c < 5; c++) {
+                Edges.due(held[c], two.colour(c, 6));
+            }
         });
         Edges.edge(7, "0 KIND, 1 to 3 its LIGHTS, 4 its VAT", () -> {
             HueLease x = Edges.of("plain 1 1 1 1;fugitive 4 5 6 78;");
@@ -116,6 +121,14 @@ final class StateEdges {
             HueLease poor = Edges.of("royal 9 9 9 9;one 0 0;");
             for (int what = 0; what <= 4; what++) {
                 Edges.due(0, poor.one(0, what));
+            }
+            // Only what he holds himself counts.
+            HueLease four = Edges.of("plain1 1 1 1;".repeat(4) + "royal1 1 1 9;one 1 1;one 1 1;one 1 1;one 1 1;lent 0 0 1;lent 3 4 99;");
+            int[] drops = {1, 0, 0, 99};
+            int[] rents = {2, 0, 0, 6 * 99};
+            for (int p = 0; p < 4; p++) {
+                Edges.due(drops[p], four.one(p, 3));
+                Edges.due(rents[p], four.one(p, 4));
             }
         });
     }
