@@ -163,6 +163,19 @@ final class ChoiceEdges {
             HueLease x = lasting(9, 0, 5);
             x.days(1);
             Edges.due(0, x.more(0, 0));
+            // Both colours are taken from him on the sixth day; if the first is taken at once he keeps the other: fewer will do.
+            HueLease fewer = Edges.of("lasting 1 1 1 20;lasting 1 1 1 9;one 30 0;lent 0 0 1;lent 0 1 1;");
+            Edges.due(2, fewer.runs(10, 1));
+            Edges.due(20, fewer.more(0, 0));
+            Edges.due(20, fewer.lend(0, 0, 20) - 1);
+            Edges.due(1, fewer.runs(10, 1));
+            // By one drop there is a seizure more, by two or more there is none.
+            int[][] mosts = {{0, 0}, {1, 0}, {2, 2}, {3, 3}, {99, 98}};
+            for (int[] m : mosts) {
+                HueLease gap = Edges.of("lasting 1 1 1 " + m[0] + ";lasting 1 1 1 9;one 3 3;lent 0 0 1;lent 0 1 1;");
+                Edges.due(1, gap.runs(10, 1));
+                Edges.due(m[1], gap.more(0, 0));
+            }
         });
         Edges.edge(21, "than as it is. BAD.", () -> {
             Edges.bounds(0, 1, Edges::busy, (x, v) -> x.more(v, 0));
