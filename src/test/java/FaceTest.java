@@ -33,6 +33,10 @@ public final class FaceTest {
     public static void main(String[] args) throws IOException {
         members();
         privateNames();
+        staticFields(HueLease.class);
+        for (Class<?> inside : HueLease.class.getDeclaredClasses()) {
+            staticFields(inside);
+        }
         String source = Files.readString(Path.of("src/main/java/HueLease.java"));
         words(source);
         methodsAreShort(source);
@@ -94,6 +98,17 @@ public final class FaceTest {
             check(!Modifier.isPrivate(m.getModifiers()) || !names.contains(m.getName()), "a name of its own for " + m);
         }
         check(countFields(HueLease.class) <= 20, "twenty fields");
+    }
+
+    /** LANGUAGE.md, rule 5: no static state. */
+    static void staticFields(Class<?> c) {
+        Set<Class<?>> constants = Set.of(int.class, long.class, boolean.class, char.class, String.class,
+            int[].class, long[].class, char[].class, byte[].class);
+        for (Field f : c.getDeclaredFields()) {
+            if (Modifier.isStatic(f.getModifiers())) {
+                check(Modifier.isFinal(f.getModifiers()) && constants.contains(f.getType()), "a constant: " + f);
+            }
+        }
     }
 
     static long countFields(Class<?> c) {

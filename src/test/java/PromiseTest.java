@@ -3,8 +3,7 @@ public final class PromiseTest {
     static final int BAD = -1, STATE = -2, FULL = -3, NONE = -4;
     static final int LOW = Integer.MIN_VALUE, HIGH = Integer.MAX_VALUE;
 
-    static final String FOUR = "plain 9 1 0 30;lasting 0 7 8 9;royal 6 0 9 4;fugitive 9 9 9 50;"
-        + "one 60 20;one 15 9;lent 0 0 8;lent 0 2 2;lent 1 3 9;lent 1 1 3;";
+    static final String FOUR = Edges.FOUR;
     static final String THREE_LIGHTS = "plain 9 0 0 2;lasting 0 9 0 2;royal 0 0 9 6;";
     static final String RICH = "plain 9 0 0 9;lasting 0 9 0 9;one 99 99;lent 0 0 4;lent 0 1 1;";
 
@@ -71,18 +70,11 @@ public final class PromiseTest {
     }
 
     static HueLease tell(HueLease x, String text) {
-        for (int i = 0; i < text.length(); i++) {
-            x.feed(text.charAt(i));
-        }
-        return x;
+        return Edges.tell(x, text);
     }
 
     static HueLease of(String text) {
-        HueLease x = tell(new HueLease(), text);
-        if (x.text() < 0) {
-            throw new IllegalStateException(text);
-        }
-        return x;
+        return Edges.of(text);
     }
 
     static void newObject() {
